@@ -11,6 +11,7 @@ public final class MindTest {
         against();
         tables();
         tablesRefuse();
+        longestTables();
         bestPlans();
         fairness();
         smaller();
@@ -36,6 +37,8 @@ public final class MindTest {
         for (int what = 0; what < 4; what++) {
             Due.due("15 nobody wins, " + what, x.game(7, what), none[what]);
         }
+        x = Due.wood("p010f0;h600;");
+        Due.due("15 the longest hour", x.game(7, 1), 600);
         x = Due.wood("p000f3;p110g3;");
         Due.due("15 touched", x.game(1, 3), 1);
     }
@@ -141,6 +144,21 @@ public final class MindTest {
         Due.due("17 no kind, wherever it stands", x.table(0, 1, 0, 1), -13);
     }
 
+    /** As many players and kinds as there can be. */
+    private static void longestTables() {
+        TwoFlags x = Due.wood("p010f3;p010f3;p010f3;p010f3;p010f3;p110g3;p110g3;p110g3;p110g3;p110g3;");
+        x.row(0, 0, 100);
+        x.row(1, 0, 100);
+        for (int i = 0; i < 100; i++) {
+            x.put(1, i, 1);
+        }
+        Due.due("17 all guard", x.table(1, 1, 0, 1), 2);
+        Due.due("17 side 0 runs into guards", x.table(0, 1, 0, 1), 2);
+        Due.due("17 side 1 runs into guards", x.table(1, 0, 0, 1), 2);
+        x.put(1, 99, 8);
+        Due.due("17 the last is no kind", x.table(0, 1, 0, 1), -13);
+    }
+
     private static void bestPlans() {
         TwoFlags x = Due.wood("p010a1;p110l1;");
         Due.due("18 no player", x.bestPlan(2, 0, 1, 1, 0), -1000000001);
@@ -151,6 +169,7 @@ public final class MindTest {
         Due.due("18 6 games", x.bestPlan(0, 0, 6, 1, 0), -1000000001);
         Due.due("18 no what", x.bestPlan(0, 0, 1, 1, 2), -1000000001);
         Due.due("18 no what", x.bestPlan(0, 0, 1, 1, -1), -1000000001);
+        Due.due("18 one game", x.bestPlan(0, 0, 1, 1, 1), 1);
         Due.due("18 the least of those that win", x.bestPlan(0, 0, 3, 1, 0), 0);
         Due.due("18 all three won", x.bestPlan(0, 0, 3, 1, 1), 3);
         Due.due("18 for side 1", x.bestPlan(1, 0, 5, 1, 1), 5);
@@ -191,15 +210,16 @@ public final class MindTest {
         int fair = 0;
         int unfair = 0;
         for (int n = 1; n <= 10; n++) {
-            for (int seed = 0; seed < 4; seed++) {
+            for (int seed = 0; seed < 20; seed++) {
                 int sum = x.against(n, seed);
                 boolean is = Math.abs(sum) <= n / 4;
                 Due.due("19 by " + n + ", " + seed, x.fair(n, seed), is ? 1 : 0);
-                fair += is ? 1 : 0;
-                unfair += is ? 0 : 1;
+                fair |= is && n == 4 && sum != 0 ? sum > 0 ? 1 : 2 : 0;
+                unfair |= !is && n == 4 ? sum > 0 ? 1 : 2 : 0;
             }
         }
-        Due.due("19 both were seen", fair > 0 && unfair > 0 ? 1 : 0, 1);
+        Due.due("19 fair by one more, either way", fair, 3);
+        Due.due("19 unfair, either way", unfair, 3);
     }
 
     private static void smaller() {
@@ -212,6 +232,7 @@ public final class MindTest {
         x = Due.wood("p000e3;p113h3;");
         Due.due("20 the guard keeps side 0 from it", x.against(3, 1), 0);
         Due.due("20 without the guard", x.smaller(1, 3, 1), 3);
+        Due.due("20 one game", x.smaller(1, 1, 1), 1);
         Due.due("20 it is there still", x.count(0), 2);
         // as if it weren't there: the others alone play as in a wood of their own
         String[] texts = VARIED.split("(?<=;)");

@@ -269,6 +269,12 @@ public final class SecondsTest {
         x.go(1);
         where("10 0 is over", x, 0, 5, 0);
         Due.due("10 none so near", x.state(4), 0);
+        // held of both sides
+        x = Due.wood("p010f1;p100g1;p000f5;p110g5;");
+        x.go(1);
+        Due.due("11 held of side 0", x.player(2, 5), 1);
+        Due.due("11 held of side 1", x.player(1, 5), 1);
+        Due.due("11 held of both", x.state(3), 2);
         // at its own half it touches only who is on that half
         x = Due.wood("e1;p000f3;p110g3;p010f4;");
         x.go(1);

@@ -50,6 +50,9 @@ public final class ShelvesTest {
         Due.due("34 it is there still", x.element(0, 99), 5);
         Due.due("34 anew", x.row(0, 2, 100), 0);
         Due.due("34 0 again", x.element(0, 99), 0);
+        x.put(0, 0, 5);
+        Due.due("34 anew, of another sort", x.row(0, 1, 1), 0);
+        Due.due("34 the first one is 0 again", x.element(0, 0), 0);
         Due.due("34 none", x.row(0, 1, 0), 0);
         Due.due("34 no place in it", x.put(0, 0, 0), -13);
     }

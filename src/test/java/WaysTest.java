@@ -154,6 +154,21 @@ public final class WaysTest {
         Due.read(x, "t100;");
         x.go(1);
         Due.due("29 who is held", x.believed(0), -3);
+        // who has a flag goes home, and after nobody; without it it would go after 1
+        x = Due.wood("t0;p100g3;p010f3;");
+        x.go(6);
+        x.keep(0, 1, 0, 0);
+        x.role(1, 0);
+        x.go(1);
+        x.keep(0, 1, 1, 9);
+        x.role(0, 0);
+        Due.due("29 0 has a flag", x.player(0, 6), 1);
+        Due.due("29 0 sees 1", x.sees(0, x.player(1, 4)), 1);
+        Due.due("29 1 is on 0's half", x.player(1, 4), Due.cell(6, 3));
+        Due.due("29 0 goes home", x.believed(1), 0);
+        x = Due.wood("t0;p119g2;p000f3;");
+        x.go(1);
+        Due.due("29 the first of all goes after it", x.believed(1), 1);
         // by a plan a running one guards
         x = Due.wood("t100;p010f3;p040a5;p100g3;p100i4;c1119;p140g5;p010f4;");
         x.go(1);

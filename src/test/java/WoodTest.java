@@ -88,6 +88,10 @@ public final class WoodTest {
         text("r1;r1", -1005);
         text("r1;;", -1003);
         text("r1; r1;", -1003);
+        // the longest row: 100 bytes that end too early, and 99 that do not
+        text("e1;".repeat(33) + "e", -1100);
+        text("e1;".repeat(33), 33);
+        text("e1;".repeat(32) + "t10;", 33);
         // kind 1, of any place, goes ahead of kind 2
         text("r9;r1;x", -1006);
         text("r9;t5", -1005);
@@ -187,6 +191,8 @@ public final class WoodTest {
         Due.due("32 plans", x.count(2), 3);
         Due.due("2 the fourth plan", Due.read(x, "c1120;"), 1);
         Due.due("32 plans", x.count(2), 4);
+        Due.due("2 ground and ring with ten players", Due.read(x, "g3b0;r2;"), 2);
+        Due.due("2 ground under ten players", Due.read(x, "g3g3;"), -2000);
     }
 
     private static void textsOnShelves() {
