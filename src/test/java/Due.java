@@ -46,6 +46,16 @@ final class Due {
         return 12 * row + column;
     }
 
+    /** A cell by its letter and digit, as texts have it. */
+    static int at(String cell) {
+        return cell(cell.charAt(0) - 'a', cell.charAt(1) - '0');
+    }
+
+    /** The letter and the digit of a cell, as texts have it. */
+    static String named(int cell) {
+        return (char) ('a' + cell % 12) + "" + cell / 12;
+    }
+
     /** 0 if nothing is thrown, 1 IllegalArgumentException, 2 IllegalStateException. */
     static int thrownByElement(TwoFlags x, int d, int i) {
         try {
