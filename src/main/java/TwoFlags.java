@@ -827,7 +827,7 @@ public final class TwoFlags {
         // -- what a text may change; each answers whether it can be
 
         boolean lay(int ground, int a, int b) {
-            if (second > 0 || ground > THICKET) {
+            if (second > 0 || !within(ground, PATH, THICKET) || !isCell(a) || !isCell(b)) {
                 return false;
             }
             int left = Math.min(a % COLUMNS, b % COLUMNS);
@@ -864,7 +864,7 @@ public final class TwoFlags {
         }
 
         boolean setRing(int ring) {
-            if (second > 0 || ring > 3) {
+            if (second > 0 || !within(ring, 0, 3)) {
                 return false;
             }
             rules[RING] = ring;
@@ -888,7 +888,7 @@ public final class TwoFlags {
             if (second > 0 || !isSide(side) || !isKind(kind) || many >= MOST_PLAYERS) {
                 return false;
             }
-            if (sideOf(home) != side || grounds[home] == THICKET || isInRing(side, home)) {
+            if (!isCell(home) || sideOf(home) != side || groundOf(home) == THICKET || isInRing(side, home)) {
                 return false;
             }
             Player p = players[many];
@@ -911,7 +911,7 @@ public final class TwoFlags {
                     own++;
                 }
             }
-            if (own >= PLANS_OF_A_SIDE) {
+            if (own >= PLANS_OF_A_SIDE || planned >= 2 * PLANS_OF_A_SIDE) {
                 return false;
             }
             plans[PLAN * planned] = side;
@@ -926,6 +926,11 @@ public final class TwoFlags {
 
         boolean ended() {
             return won != NOBODY || second >= rules[HOUR];
+        }
+
+        /** Out of the wood as of thicket: it can't be entered. */
+        int groundOf(int cell) {
+            return cell >= 0 && cell < CELLS ? grounds[cell] : THICKET;
         }
 
         int cellsOf(int ground) {
@@ -979,7 +984,7 @@ public final class TwoFlags {
         }
 
         boolean spots(Player p, int cell) {
-            return between(p.cell, cell) <= (grounds[cell] == FERN ? 1 : 4);
+            return between(p.cell, cell) <= (groundOf(cell) == FERN ? 1 : 4);
         }
 
         int watchersOf(int cell, int side) {
@@ -1115,7 +1120,7 @@ public final class TwoFlags {
         }
 
         boolean mayEnter(Player p, int cell) {
-            if (grounds[cell] == THICKET) {
+            if (groundOf(cell) == THICKET) {
                 return false;
             }
             int flag = flagPlaceOf(p.side);
@@ -1151,7 +1156,7 @@ public final class TwoFlags {
                 return;
             }
             p.cell = cell;
-            p.brook = grounds[cell] == BROOK ? 1 : 0;
+            p.brook = groundOf(cell) == BROOK ? 1 : 0;
             if (carries(player)) {
                 flags[1 - p.side] = cell;
             }
@@ -1299,7 +1304,7 @@ public final class TwoFlags {
         }
 
         private boolean passStatement() {
-            String shape = shapeOf(bytes.elements[place]);
+            String shape = shapeOf(byteAt(place));
             if (shape.isEmpty()) {
                 return false;
             }
@@ -1363,7 +1368,7 @@ public final class TwoFlags {
         }
 
         private boolean pass(int least, int most) {
-            if (place >= bytes.size || !within(bytes.elements[place], least, most)) {
+            if (place >= bytes.size || !within(byteAt(place), least, most)) {
                 return false;
             }
             place++;
@@ -1374,7 +1379,7 @@ public final class TwoFlags {
         int comeTo(Wood wood) {
             int start = 0;
             for (int at = 0; at < bytes.size; at++) {
-                if (bytes.elements[at] == ';') {
+                if (byteAt(at) == ';') {
                     if (!comesTo(wood, start, at)) {
                         return start;
                     }
@@ -1386,7 +1391,7 @@ public final class TwoFlags {
 
         private boolean comesTo(Wood wood, int at, int end) {
             int digit = digit(at + 1);
-            switch (bytes.elements[at]) {
+            switch (byteAt(at)) {
                 case 'g':
                     return wood.lay(digit, cell(at + 2), cell(end - 2));
                 case 'r':
@@ -1408,12 +1413,17 @@ public final class TwoFlags {
             }
         }
 
+        /** The byte at a place, 0 where there is none. */
+        private int byteAt(int at) {
+            return bytes.hasPlaces(at, 1) ? bytes.elements[at] : 0;
+        }
+
         private int digit(int at) {
-            return bytes.elements[at] - '0';
+            return byteAt(at) - '0';
         }
 
         private int cell(int at) {
-            return COLUMNS * digit(at + 1) + bytes.elements[at] - 'a';
+            return COLUMNS * digit(at + 1) + byteAt(at) - 'a';
         }
 
         private int number(int at, int end) {
@@ -1437,7 +1447,7 @@ public final class TwoFlags {
         int fewestGuards(Wood wood, int column, int d) {
             int open = 0;
             for (int row = 0; row < ROWS; row++) {
-                if (wood.grounds[COLUMNS * row + column] != THICKET) {
+                if (wood.groundOf(COLUMNS * row + column) != THICKET) {
                     open |= 1 << row;
                 }
             }
@@ -1482,7 +1492,7 @@ public final class TwoFlags {
                 settled[cell] = true;
                 for (int way = 0; way < 4; way++) {
                     int next = beside(cell, way);
-                    if (next != NONE && !settled[next] && wood.grounds[next] != THICKET) {
+                    if (next != NONE && !settled[next] && wood.groundOf(next) != THICKET) {
                         int cost = costs[cell] + 1 + SEEN * wood.watchersOf(next, side);
                         costs[next] = Math.min(costs[next], cost);
                     }
@@ -1525,7 +1535,7 @@ public final class TwoFlags {
             int found = 1;
             for (int steps = 1; steps <= n; steps++) {
                 for (int i = 0; i < CELLS; i++) {
-                    if (costs[i] == Integer.MAX_VALUE && wood.grounds[i] != THICKET && isReached(i, steps - 1)) {
+                    if (costs[i] == Integer.MAX_VALUE && wood.groundOf(i) != THICKET && isReached(i, steps - 1)) {
                         costs[i] = steps;
                         found++;
                     }

@@ -29,6 +29,9 @@ public final class FaceTest {
             Class<?> answer = m.getName().equals("element") ? long.class : int.class;
             Due.due("answer of " + name, m.getReturnType() == answer ? 1 : 0, 1);
             names.add(m.getName());
+            Set<Class<?>> thrown = Set.of(m.getExceptionTypes());
+            Due.due("what " + name + " throws", thrown.equals(m.getName().equals("element")
+                ? Set.of(IllegalArgumentException.class, IllegalStateException.class) : Set.of()) ? 1 : 0, 1);
             for (Class<?> c : m.getParameterTypes()) {
                 Due.due("ints of " + name, c == int.class ? 1 : 0, 1);
             }
