@@ -26,6 +26,7 @@ public final class EdgesOfSecondsTest {
         draws();
         anewStaysAndGoes();
         judged();
+        tenPlayersAtOnce();
         Due.end();
     }
 
@@ -696,6 +697,7 @@ public final class EdgesOfSecondsTest {
         Due.due("held by then", x.judge(0, 0), -4);
         x.go(1);
         Due.due("held now", x.judge(0, 0), -4);
+        Due.due("the row stays", x.element(0, 0) + x.element(0, 1), 166);
         Due.due("touched once", x.state(4), 1);
         // by z as it is: by one seed it is held, by another one not
         x = Due.wood("t50;p000f3;p130g3;");
@@ -707,5 +709,42 @@ public final class EdgesOfSecondsTest {
         Due.fill(x, 0, 0, Due.at("g3"));
         Due.due("but there", x.judge(0, 0), -4);
         Due.due("z stays", z(x), seedOf(false));
+    }
+
+    /** As many as there can be: held, freed, touched all at once, and each asked of. */
+    private static void tenPlayersAtOnce() {
+        TwoFlags x = Due.wood("l1;p060f6;" + "p000f3;".repeat(8) + "p110g3;");
+        x.go(5);
+        states("eight are held", x, 5, 2, 0, 8, 8, -4);
+        Due.read(x, "t0;");
+        x.go(1);
+        states("all are freed at once", x, 6, 2, 0, 0, 8, -4);
+        for (int player = 1; player <= 8; player++) {
+            where("freed, it acts", x, player, "g3");
+        }
+        Due.due("the guard goes to the least number", x.believed(1), 1);
+        for (int player = 2; player <= 8; player++) {
+            Due.due("and to no other", x.believed(player), 0);
+        }
+        Due.read(x, "t100;");
+        x.go(1);
+        // each went to h3 at its turn, and the guard, whose turn is the last, came to them
+        states("all are touched again", x, 7, 2, 0, 8, 16, -4);
+        Due.due("the worth of freeing them", x.worth(0), 8);
+        x.row(0, 0, 100);
+        Due.due("where the last one is", x.judge(9, 0), 0);
+        // of each kind one and more, of both sides
+        x = Due.wood("t50;p019f0;p029f1;p039f2;p049f3;p059f4;p169g4;p179g3;p109g2;p119g1;p129g0;");
+        Due.due("ten", x.count(0), 10);
+        for (int second = 1; second <= 15; second++) {
+            Due.due("a second", x.go(1), second);
+            int held = 0;
+            for (int player = 0; player < 10; player++) {
+                held += x.player(player, 5);
+                int goal = x.player(player, 8);
+                Due.due("a goal, or held", goal == -4 ? x.player(player, 5) : goal >= 0 && goal < 84 ? 1 : 0, 1);
+            }
+            Due.due("who is held", x.state(3), held);
+        }
     }
 }

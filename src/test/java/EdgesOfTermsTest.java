@@ -20,6 +20,7 @@ public final class EdgesOfTermsTest {
         creepingByTheNextCell();
         drawingByFigure();
         creepingAndDrawingByWhoIsFree();
+        nobodyElseIsThere();
         freeingIfOneIsHeld();
         whoHasAFlagWhateverItsKind();
         flagsWhereTheyAreNow();
@@ -340,6 +341,22 @@ public final class EdgesOfTermsTest {
             Due.due("2 is held", x.player(2, 5), 1);
             Due.due("goal with 2 held", x.player(1, 8), Due.at("k3"));
         }
+    }
+
+    /** Who has not come is nowhere: alone, one creeps, draws and guards as if (0, 0) and (11, 6) were empty. */
+    private static void nobodyElseIsThere() {
+        int[] kinds = {0, 2, 3, 4, 6};
+        for (int kind : kinds) {
+            cellLater("alone", "p1" + kind + "9g3;", 5, 0, "b3");
+            cellLater("alone", "p0" + kind + "9f3;", 5, 0, "k3");
+            cellLater("alone, by its own gaol", "r0;p0" + kind + "9a0;", 1, 0, "b0");
+        }
+        goal("a guard beside (0, 0)", "p019a1;", 0, "a1");
+        goal("a guard beside (11, 6)", "p119l5;", 0, "l5");
+        Due.due("worth with nobody there", new TwoFlags().worth(0), 0);
+        Due.due("worth with nobody there", new TwoFlags().worth(1), 0);
+        TwoFlags x = Due.wood("p119l5;");
+        Due.due("a way by nobody", x.wayIn(12, 0, 0, 0), 0);
     }
 
     /** Freeing: "the other SIDE's GAOL, if one of its own is HELD; else as a RUNNING one". */
